@@ -638,24 +638,12 @@ public final class Shortdecimals {
         return 0;
       }
       if (there.body != body) {
-        retell(there, body);
+        there.body = body;
+        teller.tell(kind, there);
       }
       there.sign = sign;
       there.text = writer.textOf(there);
       return 1;
-    }
-
-    private void retell(Cell there, long body) {
-      there.body = body;
-      there.told = 0;
-      there.power = 0;
-      there.form = body >= kind.endlessBody() ? ENDLESS : PLAIN;
-      if (body > 0 && there.form != ENDLESS) {
-        teller.tell(kind, body);
-        there.told = teller.told;
-        there.power = teller.power;
-        there.form = there.power >= -3 && there.power < 7 ? PLAIN : SPLIT;
-      }
     }
 
     private int refuse() {
@@ -789,7 +777,7 @@ public final class Shortdecimals {
     }
   }
 
-  /** Writes texts on one paper that is used again and again, so that a text costs no more than itself. */
+  /** Writes texts on one paper that is used again and again: a run's objects are counted, so a text costs but itself. */
   private static final class Writer {
     private static final int MOST_DIGITS = 20;
     private static final char OTHER_SIGN = '=';
@@ -808,31 +796,29 @@ public final class Shortdecimals {
       paper.setLength(0);
       if (way == 3) {
         paper.append(OTHER_SIGN);
-        write(cell, sign);
-        paper.deleteCharAt(0);
-      } else if (way == 4) {
-        write(cell, sign);
-        int length = paper.length();
-        paper.append(OTHER_SIGN);
-        paper.setLength(length);
-      } else {
-        write(cell, sign);
       }
-    }
-
-    private void write(Cell cell, int sign) {
       if (sign == 1) {
         paper.append('-');
       }
+      layOut(cell.told);
       if (cell.form == ENDLESS) {
         paper.append("Infinity");
-        return;
-      }
-      layOut(cell.told);
-      if (cell.form == PLAIN) {
+      } else if (cell.form == PLAIN) {
         writePlain(cell.power);
       } else {
         writeSplit(cell.power);
+      }
+      takeAwayOtherSign(way);
+    }
+
+    private void takeAwayOtherSign(int way) {
+      if (way == 3 && paper.length() > 0) {
+        paper.deleteCharAt(0);
+      }
+      if (way == 4) {
+        int length = paper.length();
+        paper.append(OTHER_SIGN);
+        paper.setLength(length);
       }
     }
 
@@ -905,12 +891,58 @@ public final class Shortdecimals {
     private final Whole stepUp = new Whole();
     private final Whole stepDown = new Whole();
     private final Whole spare = new Whole();
-    long told;
-    int power;
+    private long told;
+    private int power;
 
-    void tell(Kind kind, long body) {
-      prepare(kind, body);
-      boolean isEven = (body & 1) == 0;
+    /** Sets the form of the cell's number and the decimal that is told of it. */
+    void tell(Kind kind, Cell cell) {
+      told = 0;
+      power = 0;
+      cell.form = cell.body >= kind.endlessBody() ? ENDLESS : PLAIN;
+      if (cell.body > 0 && cell.form != ENDLESS) {
+        layOut(kind, cell.body);
+        scale(kind.twosOf(cell.body));
+        find((cell.body & 1) == 0);
+        cell.form = power >= -3 && power < 7 ? PLAIN : SPLIT;
+      }
+      cell.told = told;
+      cell.power = power;
+    }
+
+    /** A step to either side is halved, and below a power of two once more, so all is taken four times. */
+    private void layOut(Kind kind, long body) {
+      long significand = kind.significandOf(body);
+      over.become(significand * 4);
+      under.become(4);
+      stepUp.become(2);
+      stepDown.become(kind.isNearerBelow(body) ? 1 : 2);
+      power = tensIn(63 - Long.numberOfLeadingZeros(significand) + kind.twosOf(body));
+    }
+
+    /** The greatest power of ten in 2^twos: 0.30103 is close enough to the logarithm for |twos| up to 2000. */
+    private static int tensIn(int twos) {
+      return Math.floorDiv(twos * 30103, 100000);
+    }
+
+    /** Puts the first digit, which is 1 to 9, ahead of the point; twos and fives apart keep the numbers short. */
+    private void scale(int twos) {
+      under.timesFives(power);
+      over.timesFives(-power);
+      stepUp.timesFives(-power);
+      stepDown.timesFives(-power);
+      under.timesTwos(power - twos);
+      over.timesTwos(twos - power);
+      stepUp.timesTwos(twos - power);
+      stepDown.timesTwos(twos - power);
+      spare.becomeLike(under);
+      spare.times(10);
+      if (over.compare(spare) >= 0) {
+        under.becomeLike(spare);
+        power++;
+      }
+    }
+
+    private void find(boolean isEven) {
       long shown = nextDigit();
       long end = 10;
       for (int length = 2; length <= MOST_DIGITS; length++) {
@@ -928,46 +960,6 @@ public final class Shortdecimals {
       // rounded up from nothing but nines
       power += shown == end ? 1 : 0;
       told = withoutLastZeros(shown);
-    }
-
-    /** Sets all for the first digit, which is 1 to 9; a step to either side is halved, so all is taken four times. */
-    private void prepare(Kind kind, long body) {
-      long significand = kind.significandOf(body);
-      int twos = kind.twosOf(body);
-      over.become(significand * 4);
-      under.become(4);
-      stepUp.become(2);
-      stepDown.become(kind.isNearerBelow(body) ? 1 : 2);
-      power = tensIn(63 - Long.numberOfLeadingZeros(significand) + twos);
-      if (power >= 0) {
-        under.timesFives(power);
-      } else {
-        over.timesFives(-power);
-        stepUp.timesFives(-power);
-        stepDown.timesFives(-power);
-      }
-      timesTwos(twos - power);
-      spare.becomeLike(under);
-      spare.times(10);
-      if (over.compare(spare) >= 0) {
-        under.becomeLike(spare);
-        power++;
-      }
-    }
-
-    /** The greatest power of ten in 2^twos: 0.30103 is close enough to the logarithm for |twos| up to 2000. */
-    private static int tensIn(int twos) {
-      return Math.floorDiv(twos * 30103, 100000);
-    }
-
-    private void timesTwos(int twos) {
-      if (twos < 0) {
-        under.timesTwos(-twos);
-      } else {
-        over.timesTwos(twos);
-        stepUp.timesTwos(twos);
-        stepDown.timesTwos(twos);
-      }
     }
 
     private void goOnePlaceOn() {
@@ -1022,46 +1014,35 @@ public final class Shortdecimals {
     private static final int THIRTEEN_FIVES = 1220703125;
 
     private final int[] limbs = new int[LIMBS];
-    /** Behind these all limbs are 0 and not looked at; never above LIMBS. */
+    /** How many limbs count, never above LIMBS; the highest of them is not 0. */
     private int used;
 
     void become(long value) {
       used = 0;
       for (long rest = value; rest > 0 && used < LIMBS; rest >>= LIMB_LENGTH) {
-        grow(rest & LIMB_MASK);
-      }
-    }
-
-    private void grow(long limb) {
-      if (used < LIMBS) {
-        limbs[used] = (int) limb;
+        limbs[used] = (int) (rest & LIMB_MASK);
         used++;
       }
     }
 
-    private int limbAt(int place) {
-      return place < 0 || place >= used ? 0 : limbs[place];
-    }
-
     void becomeLike(Whole other) {
       used = other.used;
-      for (int place = 0; place < used; place++) {
-        limbs[place] = other.limbAt(place);
-      }
+      System.arraycopy(other.limbs, 0, limbs, 0, used);
     }
 
     /** This one is neither of both. */
     void becomeSum(Whole one, Whole other) {
-      int length = Math.max(one.used, other.used);
-      used = 0;
+      used = Math.max(one.used, other.used);
       long carry = 0;
-      for (int place = 0; place < length; place++) {
-        carry += (long) one.limbAt(place) + other.limbAt(place);
-        grow(carry & LIMB_MASK);
+      for (int place = 0; place < used; place++) {
+        carry += place < one.used ? one.limbs[place] : 0;
+        carry += place < other.used ? other.limbs[place] : 0;
+        limbs[place] = (int) (carry & LIMB_MASK);
         carry >>= LIMB_LENGTH;
       }
-      if (carry > 0) {
-        grow(carry);
+      if (carry > 0 && used < LIMBS) {
+        limbs[used] = (int) carry;
+        used++;
       }
     }
 
@@ -1073,10 +1054,12 @@ public final class Shortdecimals {
         carry >>= LIMB_LENGTH;
       }
       for (; carry > 0 && used < LIMBS; carry >>= LIMB_LENGTH) {
-        grow(carry & LIMB_MASK);
+        limbs[used] = (int) (carry & LIMB_MASK);
+        used++;
       }
     }
 
+    /** A count below 0 stands for none. */
     void timesFives(int count) {
       int left = count;
       for (; left >= FIVES_AT_ONCE; left -= FIVES_AT_ONCE) {
@@ -1087,8 +1070,9 @@ public final class Shortdecimals {
       }
     }
 
+    /** A count below 0 stands for none. */
     void timesTwos(int count) {
-      if (used == 0 || count < 0) {
+      if (count <= 0) {
         return;
       }
       times(1 << (count % LIMB_LENGTH));
@@ -1106,7 +1090,7 @@ public final class Shortdecimals {
     void minus(Whole other) {
       long carry = 0;
       for (int place = 0; place < used; place++) {
-        carry += (long) limbs[place] - other.limbAt(place);
+        carry += limbs[place] - (place < other.used ? other.limbs[place] : 0);
         limbs[place] = (int) (carry & LIMB_MASK);
         carry >>= LIMB_LENGTH;
       }
