@@ -1,0 +1,112 @@
+import java.lang.reflect.Field;
+import java.lang.reflect.Method;
+import java.math.BigDecimal;
+import java.math.MathContext;
+import java.math.RoundingMode;
+import java.util.Random;
+
+/**
+ * The decimals told of numbers that no call can make: powers of two, numbers near to 0, ties. The face reaches only few
+ * numbers, and most of these have short texts; so this test reaches behind it, and goes with the class's inside.
+ */
+public final class TellerTest {
+  private static final int NUMBERS = 60000;
+
+  private static Object teller;
+  private static Object cell;
+  private static Method tell;
+  private static int wrong = 0;
+
+  public static void main(String[] args) throws Exception {
+    Shortdecimals x = new Shortdecimals();
+    Object wideKind = read(read(x, "wides"), "kind");
+    Object narrowKind = read(read(x, "narrows"), "kind");
+    teller = read(read(x, "wides"), "teller");
+    cell = ((Object[]) read(read(x, "wides"), "cells"))[0];
+    tell = teller.getClass().getDeclaredMethod("tell", wideKind.getClass(), cell.getClass());
+    tell.setAccessible(true);
+    Random random = new Random(1);
+    for (int i = 0; i < NUMBERS; i++) {
+      check(wideKind, wideBody(i, random), true);
+      check(narrowKind, narrowBody(i, random), false);
+    }
+    System.out.println(wrong == 0 ? "all decimals are as due" : wrong + " decimals are not as due");
+    if (wrong != 0) {
+      System.exit(1);
+    }
+  }
+
+  private static Object read(Object from, String name) throws Exception {
+    Field field = from.getClass().getDeclaredField(name);
+    field.setAccessible(true);
+    return field.get(from);
+  }
+
+  private static long wideBody(int i, Random random) {
+    long body = random.nextLong() & Long.MAX_VALUE;
+    switch (i % 7) {
+      case 0:
+        return body & 0x7ff0000000000000L;
+      case 1:
+        return body & 0x000fffffffffffffL;
+      case 2:
+        return body & 0x7ff000000000003fL;
+      case 3:
+        return i;
+      case 4:
+        return Double.doubleToLongBits(Math.scalb(1.0 + random.nextInt(1000), random.nextInt(2000) - 1070));
+      case 5:
+        return Double.doubleToLongBits(Double.parseDouble(1 + random.nextInt(1000) + "E" + (random.nextInt(600) - 310)));
+      default:
+        return body;
+    }
+  }
+
+  private static long narrowBody(int i, Random random) {
+    int body = random.nextInt() & Integer.MAX_VALUE;
+    int[] bodies = {body & 0x7f800000, body & 0x007fffff, body & 0x7f80003f, i, body};
+    return bodies[i % bodies.length];
+  }
+
+  private static void check(Object kind, long body, boolean isWide) throws Exception {
+    double value = isWide ? Double.longBitsToDouble(body) : Float.intBitsToFloat((int) body);
+    if (!(value > 0) || Double.isInfinite(value)) {
+      return;
+    }
+    Field bodyField = cell.getClass().getDeclaredField("body");
+    bodyField.setAccessible(true);
+    bodyField.setLong(cell, body);
+    tell.invoke(teller, kind, cell);
+    long told = (Long) read(cell, "told");
+    int power = (Integer) read(cell, "power");
+    BigDecimal got = BigDecimal.valueOf(told).scaleByPowerOfTen(power + 1 - Long.toString(told).length());
+    BigDecimal due = due(value, isWide);
+    int form = due.compareTo(new BigDecimal("0.001")) >= 0 && due.compareTo(new BigDecimal("10000000")) < 0 ? 0 : 1;
+    if (got.compareTo(due) != 0 || told % 10 == 0 || (Integer) read(cell, "form") != form) {
+      wrong++;
+      System.out.println(value + (isWide ? ", wide, " : ", narrow, ") + "told as " + got + ", due is " + due);
+    }
+  }
+
+  private static BigDecimal due(double value, boolean isWide) {
+    BigDecimal exact = new BigDecimal(value);
+    for (int length = 2; length < 20; length++) {
+      BigDecimal below = exact.round(new MathContext(length, RoundingMode.DOWN));
+      BigDecimal above = exact.round(new MathContext(length, RoundingMode.UP));
+      boolean isBelow = leadsBack(below, value, isWide);
+      boolean isAbove = leadsBack(above, value, isWide);
+      if (isBelow && isAbove) {
+        return exact.round(new MathContext(length, RoundingMode.HALF_EVEN));
+      }
+      if (isBelow || isAbove) {
+        return isBelow ? below : above;
+      }
+    }
+    throw new IllegalStateException("no decimal leads back to " + exact);
+  }
+
+  private static boolean leadsBack(BigDecimal decimal, double value, boolean isWide) {
+    String text = decimal.toString();
+    return (isWide ? Double.parseDouble(text) : Float.parseFloat(text)) == value;
+  }
+}
