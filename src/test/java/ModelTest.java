@@ -8,8 +8,10 @@ import java.util.Random;
  * texts are looked for among all decimals of a length. The seed is fixed: every run of this test is the same.
  */
 public final class ModelTest {
-  private static final int RUNS = 400;
-  private static final int CALLS = 500;
+  private static final int RUNS = 3000;
+  /** An object is used for at most 512 calls; this many are left for the last question and the digest. */
+  private static final int CALLS = 460;
+  private static final int CALLS_OF_A_QUESTION = 40;
   private static final int REFUSED = -9;
   private static final int NO_QUARTER = Integer.MIN_VALUE;
 
@@ -201,19 +203,20 @@ public final class ModelTest {
 
   private static void oneRun(int run, Random random) {
     Pair pair = new Pair();
-    for (int call = 0; call < CALLS; call++) {
+    int call = 0;
+    while (call < CALLS) {
       boolean isWide = random.nextBoolean();
       String name = "run " + run + ", call " + call + (isWide ? ", wide" : ", narrow");
-      if (random.nextInt(3) < 2) {
+      if (random.nextInt(12) > 0) {
         change(name, pair, isWide, random);
+        call++;
       } else {
         ask(name, pair, isWide, random);
-      }
-      if (call % 100 == 99) {
-        due(name + " digest", pair.asked.digest(), pair.digest());
-        due(name + " isSound", pair.asked.isSound(), true);
+        call += CALLS_OF_A_QUESTION;
       }
     }
+    due("run " + run + " digest", pair.asked.digest(), pair.digest());
+    due("run " + run + " isSound", pair.asked.isSound(), true);
   }
 
   private static int upTo(Random random, int limit) {

@@ -4,191 +4,22 @@ import java.util.Arrays;
  * Each promise by itself: ordinary inputs, the edges that the document names, and wrong inputs. A promise of the narrow
  * kind has the number of that of the wide kind and 24.
  */
-public final class PromisesTest {
-  private static final int[] NO_CELLS = {-1, 8, Integer.MIN_VALUE, Integer.MAX_VALUE};
-  private static final int REFUSED = -9;
-  private static final int NO_QUARTER = -2147483648;
-  private static final int NONE = -1;
-
-  private static int wrong = 0;
-  private static int checks = 0;
-  private static final boolean[] isChecked = new boolean[58];
-
-  // ---- how it is checked
+public final class PromisesTest extends Checks {
+  private static final boolean[] isChecked = new boolean[PROMISES + 1];
 
   private static void due(int promise, String call, Object got, Object want) {
-    checks++;
     isChecked[promise] = true;
-    if (!want.equals(got)) {
-      wrong++;
-      System.out.println("promise " + promise + ": " + call + " answered " + got + ", due is " + want);
-    }
-  }
-
-  private interface Call {
-    Object on(Shortdecimals x);
-  }
-
-  /** The call throws just this exception, not one below it, and changes nothing. */
-  private static void thrown(int promise, String name, Class<?> exception, Call call) {
-    Shortdecimals x = filled();
-    long ahead = x.digest();
-    String texts = x.wideTexts(0, 7) + x.narrowTexts(0, 7);
-    Object end;
-    try {
-      end = call.on(x);
-    } catch (RuntimeException e) {
-      end = e.getClass();
-    }
-    due(promise, name, end, exception);
-    due(promise, name + " and then digest", x.digest(), ahead);
-    due(promise, name + " and then texts", x.wideTexts(0, 7) + x.narrowTexts(0, 7), texts);
+    due("promise " + promise + ": " + call, got, want);
   }
 
   private static void noCell(int promise, String name, Call call) {
-    thrown(promise, name, IndexOutOfBoundsException.class, call);
+    isChecked[promise] = true;
+    noCell("promise " + promise + ": " + name, call);
   }
 
   private static void illegal(int promise, String name, Call call) {
-    thrown(promise, name, IllegalArgumentException.class, call);
-  }
-
-  private static Shortdecimals filled() {
-    Shortdecimals x = new Shortdecimals();
-    for (Side side : Side.values()) {
-      side.quarters(x, 0, 5);
-      side.made(x, 1, -123, -4);
-      side.ten(x, 2, 9);
-      side.known(x, 3, 3);
-      side.known(x, 4, 4);
-      side.known(x, 5, 5);
-      side.known(x, 6, 1);
-    }
-    x.knock();
-    return x;
-  }
-
-  /** The methods of a kind under one name. */
-  private enum Side {
-    WIDE, NARROW;
-
-    final boolean isWide = ordinal() == 0;
-    final int more = isWide ? 0 : 24;
-    final int limit = isWide ? 1000000000 : 400000;
-    final int madeLimit = isWide ? 999999999 : 999999;
-    final int madeLowest = isWide ? -9 : -6;
-    final int madeHighest = isWide ? 6 : 3;
-    final int tenLimit = isWide ? 22 : 10;
-
-    int quarters(Shortdecimals x, int cell, int quarters) {
-      return isWide ? x.wideQuarters(cell, quarters) : x.narrowQuarters(cell, quarters);
-    }
-
-    int made(Shortdecimals x, int cell, int n, int k) {
-      return isWide ? x.wideMade(cell, n, k) : x.narrowMade(cell, n, k);
-    }
-
-    int ten(Shortdecimals x, int cell, int k) {
-      return isWide ? x.wideTen(cell, k) : x.narrowTen(cell, k);
-    }
-
-    int known(Shortdecimals x, int cell, int which) {
-      return isWide ? x.wideKnown(cell, which) : x.narrowKnown(cell, which);
-    }
-
-    int minus(Shortdecimals x, int cell) {
-      return isWide ? x.wideMinus(cell) : x.narrowMinus(cell);
-    }
-
-    int copy(Shortdecimals x, int from, int into) {
-      return isWide ? x.wideCopy(from, into) : x.narrowCopy(from, into);
-    }
-
-    int swap(Shortdecimals x, int one, int other) {
-      return isWide ? x.wideSwap(one, other) : x.narrowSwap(one, other);
-    }
-
-    int sum(Shortdecimals x, int one, int other, int into) {
-      return isWide ? x.wideSum(one, other, into) : x.narrowSum(one, other, into);
-    }
-
-    String text(Shortdecimals x, int cell, int way) {
-      return isWide ? x.wideText(cell, way) : x.narrowText(cell, way);
-    }
-
-    String text(Shortdecimals x, int cell) {
-      return text(x, cell, 0);
-    }
-
-    int length(Shortdecimals x, int cell) {
-      return isWide ? x.wideLength(cell) : x.narrowLength(cell);
-    }
-
-    int sign(Shortdecimals x, int cell, int place) {
-      return isWide ? x.wideSign(cell, place) : x.narrowSign(cell, place);
-    }
-
-    int point(Shortdecimals x, int cell) {
-      return isWide ? x.widePoint(cell) : x.narrowPoint(cell);
-    }
-
-    int power(Shortdecimals x, int cell) {
-      return isWide ? x.widePower(cell) : x.narrowPower(cell);
-    }
-
-    int digits(Shortdecimals x, int cell) {
-      return isWide ? x.wideDigits(cell) : x.narrowDigits(cell);
-    }
-
-    int form(Shortdecimals x, int cell) {
-      return isWide ? x.wideForm(cell) : x.narrowForm(cell);
-    }
-
-    boolean same(Shortdecimals x, int one, int other, int how) {
-      return isWide ? x.wideSame(one, other, how) : x.narrowSame(one, other, how);
-    }
-
-    int order(Shortdecimals x, int one, int other) {
-      return isWide ? x.wideOrder(one, other) : x.narrowOrder(one, other);
-    }
-
-    int textOrder(Shortdecimals x, int one, int other) {
-      return isWide ? x.wideTextOrder(one, other) : x.narrowTextOrder(one, other);
-    }
-
-    boolean like(Shortdecimals x, int one, int other) {
-      return isWide ? x.wideLike(one, other) : x.narrowLike(one, other);
-    }
-
-    int hash(Shortdecimals x, int cell) {
-      return isWide ? x.wideHash(cell) : x.narrowHash(cell);
-    }
-
-    String texts(Shortdecimals x, int from, int to) {
-      return isWide ? x.wideTexts(from, to) : x.narrowTexts(from, to);
-    }
-
-    int count(Shortdecimals x, int cell) {
-      return isWide ? x.wideCount(cell) : x.narrowCount(cell);
-    }
-
-    int acts(Shortdecimals x) {
-      return x.house(isWide ? 0 : 1);
-    }
-
-    int actsOfOther(Shortdecimals x) {
-      return x.house(isWide ? 1 : 0);
-    }
-
-    /** All digits of a cell, in sixteens. */
-    String bits(Shortdecimals x, int cell) {
-      return isWide ? String.format("%08x%08x", x.upper(cell), x.lower(cell)) : String.format("%08x", x.digits(cell));
-    }
-
-    /** That of the two that belongs to this kind. */
-    <T> T of(T wide, T narrow) {
-      return isWide ? wide : narrow;
-    }
+    isChecked[promise] = true;
+    illegal("promise " + promise + ": " + name, call);
   }
 
   public static void main(String[] args) {
@@ -223,16 +54,10 @@ public final class PromisesTest {
     house();
     sound();
     digest();
-    for (int promise = 1; promise < isChecked.length; promise++) {
-      if (!isChecked[promise]) {
-        wrong++;
-        System.out.println("promise " + promise + " is not checked");
-      }
+    for (int promise = 1; promise <= PROMISES; promise++) {
+      due("is promise " + promise + " checked", isChecked[promise], true);
     }
-    System.out.println(wrong == 0 ? checks + " checks are as due" : wrong + " of " + checks + " checks are not as due");
-    if (wrong != 0) {
-      System.exit(1);
-    }
+    end();
   }
 
   // ---- the promises

@@ -30,6 +30,7 @@ public final class TellerTest {
       check(wideKind, wideBody(i, random), true);
       check(narrowKind, narrowBody(i, random), false);
     }
+    ties(wideKind, narrowKind);
     System.out.println(wrong == 0 ? "all decimals are as due" : wrong + " decimals are not as due");
     if (wrong != 0) {
       System.exit(1);
@@ -85,6 +86,49 @@ public final class TellerTest {
     if (got.compareTo(due) != 0 || told % 10 == 0 || (Integer) read(cell, "form") != form) {
       wrong++;
       System.out.println(value + (isWide ? ", wide, " : ", narrow, ") + "told as " + got + ", due is " + due);
+    }
+  }
+
+  /** Decimals that lie just between two numbers, two of as near, all nines, and what stands next to these. */
+  private static void ties(Object wideKind, Object narrowKind) throws Exception {
+    // two of as near: that with even d
+    checkOne(narrowKind, 2097152.25, "2097152.2");
+    checkOne(narrowKind, 2097152.75, "2097152.8");
+    checkOne(wideKind, 1125899906842624.25, "1125899906842624.2");
+    checkOne(wideKind, 1125899906842624.75, "1125899906842624.8");
+    // just between two numbers: it rounds to that with the even fraction, and not to the other one
+    checkOne(narrowKind, 33554448, "33554450");
+    checkOne(narrowKind, 33554452, "33554452");
+    checkOne(narrowKind, 8999999488.0, "9E9");
+    checkOne(narrowKind, 9000000512.0, "9.000001E9");
+    checkOne(wideKind, 9007199254740992.0, "9007199254740992");
+    checkOne(wideKind, 9007199254740994.0, "9007199254740994");
+    // powers of two, where the next one below is nearer, and what one digit would tell
+    checkOne(wideKind, 2e23, "2E23");
+    checkOne(wideKind, 2e-3, "2E-3");
+    checkOne(wideKind, 1e23, "1E23");
+    checkOne(wideKind, Double.MIN_NORMAL, "2.2250738585072014E-308");
+    checkOne(wideKind, Double.MIN_VALUE * 2, "9.9E-324");
+    checkOne(wideKind, Double.MIN_VALUE, "4.9E-324");
+    checkOne(wideKind, Double.MAX_VALUE, "1.7976931348623157E308");
+    checkOne(narrowKind, Float.MIN_NORMAL, "1.1754944E-38");
+    checkOne(narrowKind, Float.MIN_VALUE, "1.4E-45");
+    checkOne(narrowKind, Float.MIN_VALUE * 2, "2.8E-45");
+    checkOne(narrowKind, Float.MAX_VALUE, "3.4028235E38");
+    checkOne(narrowKind, 0x1p-44, "5.684342E-14");
+    // just below a power of ten, and just at the edges of the forms
+    checkOne(wideKind, Math.nextDown(1e7), "9999999.999999998");
+    checkOne(wideKind, Math.nextDown(1e-3), "9.999999999999998E-4");
+    checkOne(narrowKind, Math.nextDown(1e7f), "9999999");
+    checkOne(narrowKind, Math.nextDown(1e-3f), "9.999999E-4");
+  }
+
+  private static void checkOne(Object kind, double value, String due) throws Exception {
+    boolean isWide = ((Enum<?>) kind).ordinal() == 0;
+    check(kind, isWide ? Double.doubleToLongBits(value) : Float.floatToIntBits((float) value), isWide);
+    if (due(value, isWide).compareTo(new BigDecimal(due)) != 0) {
+      wrong++;
+      System.out.println(value + ": due by this test is not " + due);
     }
   }
 
