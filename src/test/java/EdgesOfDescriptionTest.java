@@ -376,11 +376,29 @@ public final class EdgesOfDescriptionTest extends Checks {
     due("digits of as many nines as can be", side.digits(x, 0), side.of(10, 7));
     side.quarters(x, 0, side.limit - 1);
     due("text of the most digits that quarters have", side.text(x, 0), side.of("2.4999999975E8", "99999.75"));
+    nextToNone(side);
     sentence("it has LENGTH n, if d, without zeros at its end, has n digits.");
     side.made(x, 0, 123000, 3);
     due("text of 123000 * 10^3", side.text(x, 0), "1.23E8");
     side.made(x, 0, 100000, -6);
     due("text of 100000 * 10^-6", side.text(x, 0), "0.1");
+  }
+
+  /** With one digit less, the greatest one would be told by a v that has no NEAREST; so would the least one by 2E-324. */
+  private static void nextToNone(Side side) {
+    sentence("(a v that is half a step or more above the greatest one, or half of the least one or less, has none; the last"
+        + " step up to the greatest one is 2^971, or 2^104)");
+    Shortdecimals x = new Shortdecimals();
+    side.known(x, 0, 4);
+    side.known(x, 1, 5);
+    due("the greatest and the least one", side.texts(x, 0, 1),
+        side.of("1.7976931348623157E308 4.9E-324", "3.4028235E38 1.4E-45"));
+    BigDecimal halfStep = new BigDecimal(BigInteger.TWO.pow(side.of(970, 103)));
+    BigDecimal greatest = value(side, body(side, x, 0));
+    due("is what is told less than half a step away", new BigDecimal(side.text(x, 0)).subtract(greatest).abs().compareTo(halfStep),
+        -1);
+    due("is that with one digit less", new BigDecimal(side.of("1.797693134862316E308", "3.402824E38")).subtract(greatest)
+        .compareTo(halfStep), 1);
   }
 
   private static void plain(Side side) {

@@ -9,13 +9,12 @@ import java.util.Random;
  * The decimals told of numbers that no call can make: powers of two, numbers near to 0, ties. The face reaches only few
  * numbers, and most of these have short texts; so this test reaches behind it, and goes with the class's inside.
  */
-public final class TellerTest {
+public final class TellerTest extends Checks {
   private static final int NUMBERS = 60000;
 
   private static Object teller;
   private static Object cell;
   private static Method tell;
-  private static int wrong = 0;
 
   public static void main(String[] args) throws Exception {
     Shortdecimals x = new Shortdecimals();
@@ -25,16 +24,14 @@ public final class TellerTest {
     cell = ((Object[]) read(read(x, "wides"), "cells"))[0];
     tell = teller.getClass().getDeclaredMethod("tell", wideKind.getClass(), cell.getClass());
     tell.setAccessible(true);
+    sentence("TOLD of it: of all DECIMALS of a LENGTH of LEAST at most that ROUND to it that with the least difference from it");
     Random random = new Random(1);
     for (int i = 0; i < NUMBERS; i++) {
       check(wideKind, wideBody(i, random), true);
       check(narrowKind, narrowBody(i, random), false);
     }
     ties(wideKind, narrowKind);
-    System.out.println(wrong == 0 ? "all decimals are as due" : wrong + " decimals are not as due");
-    if (wrong != 0) {
-      System.exit(1);
-    }
+    end();
   }
 
   private static Object read(Object from, String name) throws Exception {
@@ -83,27 +80,27 @@ public final class TellerTest {
     BigDecimal got = BigDecimal.valueOf(told).scaleByPowerOfTen(power + 1 - Long.toString(told).length());
     BigDecimal due = due(value, isWide);
     int form = due.compareTo(new BigDecimal("0.001")) >= 0 && due.compareTo(new BigDecimal("10000000")) < 0 ? 0 : 1;
-    if (got.compareTo(due) != 0 || told % 10 == 0 || (Integer) read(cell, "form") != form) {
-      wrong++;
-      System.out.println(value + (isWide ? ", wide, " : ", narrow, ") + "told as " + got + ", due is " + due);
-    }
+    String name = value + (isWide ? ", wide" : ", narrow");
+    due("TOLD of " + name + ", less what is due", got.subtract(due).signum(), 0);
+    due("is the last digit of TOLD of " + name + " 0", told % 10 == 0, false);
+    due("FORM of " + name, read(cell, "form"), form);
   }
 
   /** Decimals that lie just between two numbers, two of as near, all nines, and what stands next to these. */
   private static void ties(Object wideKind, Object narrowKind) throws Exception {
-    // two of as near: that with even d
+    sentence("of two as near, both written with d of LEAST digits, that with even d.");
     checkOne(narrowKind, 2097152.25, "2097152.2");
     checkOne(narrowKind, 2097152.75, "2097152.8");
     checkOne(wideKind, 1125899906842624.25, "1125899906842624.2");
     checkOne(wideKind, 1125899906842624.75, "1125899906842624.8");
-    // just between two numbers: it rounds to that with the even fraction, and not to the other one
+    sentence("of two as near the one whose FRACTION is even");
     checkOne(narrowKind, 33554448, "33554450");
     checkOne(narrowKind, 33554452, "33554452");
     checkOne(narrowKind, 8999999488.0, "9E9");
     checkOne(narrowKind, 9000000512.0, "9.000001E9");
     checkOne(wideKind, 9007199254740992.0, "9007199254740992");
     checkOne(wideKind, 9007199254740994.0, "9007199254740994");
-    // powers of two, where the next one below is nearer, and what one digit would tell
+    sentence("LEAST of a FINITE NUMBER above 0: the least n from 2 on so that a DECIMAL of a LENGTH of n at most ROUNDS to it.");
     checkOne(wideKind, 2e23, "2E23");
     checkOne(wideKind, 2e-3, "2E-3");
     checkOne(wideKind, 1e23, "1E23");
@@ -116,7 +113,7 @@ public final class TellerTest {
     checkOne(narrowKind, Float.MIN_VALUE * 2, "2.8E-45");
     checkOne(narrowKind, Float.MAX_VALUE, "3.4028235E38");
     checkOne(narrowKind, 0x1p-44, "5.684342E-14");
-    // just below a power of ten, and just at the edges of the forms
+    sentence("0 PLAIN, if TOLD is at least 10^-3 and below 10^7");
     checkOne(wideKind, Math.nextDown(1e7), "9999999.999999998");
     checkOne(wideKind, Math.nextDown(1e-3), "9.999999999999998E-4");
     checkOne(narrowKind, Math.nextDown(1e7f), "9999999");
@@ -126,10 +123,7 @@ public final class TellerTest {
   private static void checkOne(Object kind, double value, String due) throws Exception {
     boolean isWide = ((Enum<?>) kind).ordinal() == 0;
     check(kind, isWide ? Double.doubleToLongBits(value) : Float.floatToIntBits((float) value), isWide);
-    if (due(value, isWide).compareTo(new BigDecimal(due)) != 0) {
-      wrong++;
-      System.out.println(value + ": due by this test is not " + due);
-    }
+    due("TOLD of " + value + " by this test", due(value, isWide).compareTo(new BigDecimal(due)), 0);
   }
 
   private static BigDecimal due(double value, boolean isWide) {
